@@ -11,7 +11,7 @@ public final class WreckField {
     private final Yard yard = new Yard();
     private final DiveLog log = new DiveLog();
     private final RuleReader reader = new RuleReader();
-    private final Timbers timbers = new Timbers(yard);
+    private final Timbers timbers = new Timbers();
     private final Planner planner = new Planner();
     private final Wreck wreck = new Wreck();
     private final Sheets sheets = new Sheets();
@@ -216,15 +216,15 @@ public final class WreckField {
     }
 
     public int best(int timber) {
-        return timbers.bestOf(timber);
+        return timbers.bestOf(yard, timber);
     }
 
     public int joined(int timber) {
-        int other = timbers.bestOf(timber);
+        int other = timbers.bestOf(yard, timber);
         if (other < 0) {
             return other;
         }
-        return timbers.bestOf(other) == timber ? other : NONE;
+        return timbers.bestOf(yard, other) == timber ? other : NONE;
     }
 
     // ---- plans
@@ -279,7 +279,7 @@ public final class WreckField {
             case 9: return planner.tasks;
             case 10: return planner.gangs;
             case 11: return yard.inField();
-            case 12: return survey.tapesOut();
+            case 12: return survey.fittedRound();
             default: return BAD;
         }
     }
@@ -312,7 +312,8 @@ public final class WreckField {
     /** MARKS and TAPES, and THE FIT. */
     private static final class Survey {
         static final int MOST_MARKS = 8, MOST_TAPES = 24, PLACE = 5000, LENGTH = 15000;
-        static final int FIRST_STEP = 512, PASSES = 4, NEVER = 99, ROOT_STEPS = 60;
+        static final int FIRST_STEP = 512, TIMES = 4, NEVER = 99, ROOT_STEPS = 60;
+        static final long NO_LIMIT = 1L << 62;
 
         int markCount = 0;
         int tapeCount = 0;
@@ -404,7 +405,7 @@ public final class WreckField {
                 case 1: return secondMark[tape];
                 case 2: return lengths[tape];
                 case 3: return isOut(tape, fittedRound()) ? 1 : 0;
-                case 4: return missOf(tape, fittedRound());
+                case 4: return miss(tape, fittedRound());
                 default: return NO;
             }
         }
@@ -414,18 +415,15 @@ public final class WreckField {
             long squares = 0;
             for (int tape = 0; tape < tapeCount; tape++) {
                 if (!isOut(tape, round)) {
-                    long miss = missOf(tape, round);
+                    long miss = miss(tape, round);
                     squares += miss * miss;
                 }
             }
             return squares;
         }
 
-        int tapesOut() {
-            return fittedRound();
-        }
-
-        private int fittedRound() {
+        /** The round that is THE FIT: as many TAPES are OUT. */
+        int fittedRound() {
             for (int round = 0; round < tapeCount; round++) {
                 fitIfNew(round);
                 if (worstSize[round] <= bar) {
@@ -440,25 +438,22 @@ public final class WreckField {
             return outFrom[tape] <= round;
         }
 
-        private int missOf(int tape, int round) {
+        private int miss(int tape, int round) {
             int a = MOST_MARKS * round + firstMark[tape];
             int b = MOST_MARKS * round + secondMark[tape];
-            return miss(roundX[a] - roundX[b], roundY[a] - roundY[b], lengths[tape]);
+            return distance(roundX[a] - roundX[b], roundY[a] - roundY[b], lengths[tape]) - lengths[tape];
         }
 
-        private static int miss(int dx, int dy, int length) {
-            return cutRoot(dx * dx + dy * dy, length) - length;
-        }
-
-        /** The guess is only a place to begin at, so that a TAPE that nearly fits costs few steps. */
-        private static int cutRoot(int n, int guess) {
-            if (n < 1 || guess < 1) {
+        /** The cut root of two squares. The guess is only where it begins: a TAPE that nearly fits costs few steps. */
+        private static int distance(int dx, int dy, int guess) {
+            int squares = dx * dx + dy * dy;
+            if (squares < 1 || guess < 1) {
                 return 0;
             }
             // One step from any guess comes to the root or above it; from there the steps only fall.
-            int root = (guess + n / guess) / 2;
+            int root = (guess + squares / guess) / 2;
             for (int step = 0; step < ROOT_STEPS && root > 0; step++) {
-                int next = (root + n / root) / 2;
+                int next = (root + squares / root) / 2;
                 if (next >= root) {
                     break;
                 }
@@ -471,33 +466,28 @@ public final class WreckField {
             if (round < rounds) {
                 return;
             }
-            int base = MOST_MARKS * round;
-            for (int mark = 0; mark < markCount; mark++) {
-                roundX[base + mark] = toldX[mark];
-                roundY[base + mark] = toldY[mark];
-            }
+            goToTold(round);
             for (int step = FIRST_STEP; step >= 1; step /= 2) {
-                // A pass in which no MARK goes is the same again the next time.
-                boolean goes = true;
-                for (int pass = 0; pass < PASSES && goes; pass++) {
-                    goes = moveMarks(round, step);
+                // A time at which no MARK goes is the same again the next time.
+                boolean isMoving = true;
+                for (int time = 0; time < TIMES && isMoving; time++) {
+                    isMoving = false;
+                    for (int mark = 0; mark < markCount; mark++) {
+                        if (!fixed[mark] && moveMark(mark, round, step)) {
+                            isMoving = true;
+                        }
+                    }
                 }
             }
             judge(round);
             rounds = round + 1;
         }
 
-        private boolean moveMarks(int round, int step) {
-            boolean goes = false;
+        private void goToTold(int round) {
             for (int mark = 0; mark < markCount; mark++) {
-                if (!fixed[mark]) {
-                    gatherNear(mark, round);
-                    if (moveMark(MOST_MARKS * round + mark, step)) {
-                        goes = true;
-                    }
-                }
+                roundX[MOST_MARKS * round + mark] = toldX[mark];
+                roundY[MOST_MARKS * round + mark] = toldY[mark];
             }
-            return goes;
         }
 
         private void gatherNear(int mark, int round) {
@@ -514,12 +504,14 @@ public final class WreckField {
             }
         }
 
-        private boolean moveMark(int at, int step) {
+        private boolean moveMark(int mark, int round, int step) {
+            gatherNear(mark, round);
+            int at = MOST_MARKS * round + mark;
             int ownX = roundX[at];
             int ownY = roundY[at];
             int leastX = ownX;
             int leastY = ownY;
-            long least = nearSquares(ownX, ownY, Long.MAX_VALUE);
+            long least = nearSquares(ownX, ownY, NO_LIMIT);
             for (int x = ownX - step; x <= ownX + step; x += step) {
                 for (int y = ownY - step; y <= ownY + step; y += step) {
                     long squares = nearSquares(x, y, least);
@@ -539,7 +531,7 @@ public final class WreckField {
         private long nearSquares(int x, int y, long limit) {
             long squares = 0;
             for (int i = 0; i < near && squares < limit; i++) {
-                long miss = miss(x - nearX[i], y - nearY[i], nearLength[i]);
+                long miss = distance(x - nearX[i], y - nearY[i], nearLength[i]) - nearLength[i];
                 squares += miss * miss;
             }
             return squares;
@@ -550,7 +542,7 @@ public final class WreckField {
             int size = -1;
             for (int tape = 0; tape < tapeCount; tape++) {
                 if (!isOut(tape, round)) {
-                    int missed = Math.abs(missOf(tape, round));
+                    int missed = Math.abs(miss(tape, round));
                     if (missed > size) {
                         size = missed;
                         worst = tape;
@@ -1309,14 +1301,9 @@ public final class WreckField {
     private static final class Timbers {
         static final int FARTHEST = 50, LEAST_BOND = 2;
 
-        private final Yard yard;
         private final int[] sums = new int[2 * FARTHEST + 1];
         int greatest = 0;
         int shift = 0;
-
-        Timbers(Yard yard) {
-            this.yard = yard;
-        }
 
         /** Sets greatest to the BOND of two TIMBERS, and shift to its SHIFT. */
         void match(Find a, Find b) {
@@ -1345,7 +1332,7 @@ public final class WreckField {
             }
         }
 
-        int bestOf(int timber) {
+        int bestOf(Yard yard, int timber) {
             Find asked = yard.timberAt(timber);
             if (asked == null) {
                 return BAD;
@@ -1547,7 +1534,7 @@ public final class WreckField {
     /** SHEETS of the host. */
     private static final class Sheets {
         static final int SHEETS = 4, MOST_ITEMS = 40, MISSING = -1, BYTES = 0, SHORTS = 1, FLOATS = 2;
-        static final int MOST_VALUE = 40000, NO_NUMBER = Integer.MIN_VALUE;
+        static final int MOST_VALUE = 40000, NO_NUMBER = MOST_VALUE + 1;
 
         private final int[] sorts = {MISSING, MISSING, MISSING, MISSING};
         private final int[] sizes = new int[SHEETS];

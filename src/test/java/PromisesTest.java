@@ -243,6 +243,28 @@ public final class PromisesTest {
         due(x.tapeTold(2, 3), 1);
         x.bar(150);
         due(x.count(12), 0);
+        // All of them OUT, all of them at one MARK.
+        anew();
+        x.mark(0, 0, true);
+        x.mark(300, 400, false);
+        for (int i = 0; i < 24; i++) x.tape(i % 2, 1 - i % 2, 1 + 600 * i);
+        x.bar(1);
+        due(x.count(12), 23);
+        due(x.sum(), 0);
+        anew();
+        x.mark(0, 0, true);
+        x.mark(300, 400, true);
+        for (int i = 0; i < 24; i++) x.tape(i % 2, 1 - i % 2, 510 + i);
+        x.bar(9);
+        due(x.count(12), 24);
+        due(x.tapeTold(0, 4), -10);
+        due(x.fit(1, 1), 400);
+        x.bar(10);
+        due(x.count(12), 23);
+        due(x.tapeTold(0, 3), 0);
+        due(x.tapeTold(1, 3), 1);
+        x.bar(33);
+        due(x.count(12), 0);
     }
 
     private void promise8() {
@@ -951,6 +973,9 @@ public final class PromisesTest {
         due(x.tapeTold(0, 2), 3);
         x.none(2, 0);
         x.cell(2, 0, 2);
+        due(x.tapes(2, 0, 1), BAD);
+        // Floats are not cut to 16 bits: -35536 would be 30000 then.
+        floats(2, 0, 2, -35536);
         due(x.tapes(2, 0, 1), BAD);
     }
 
