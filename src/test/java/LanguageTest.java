@@ -28,7 +28,7 @@ public final class LanguageTest {
     private static final Set<String> CONSTANTS = Set.of("NONE", "BAD", "STATE", "FULL", "NO");
     private static final String[] FORBIDDEN = {"throw", "throws", "try", "catch", "synchronized", "assert", "import",
         "package", "->", "::", "Exact", "Object", "Math\\.sqrt", "System\\.out", "@", "\\bequals\\b", "hashCode",
-        "toString", "protected", "double", "float", "volatile", "native", "goto", "\\bvar\\b"};
+        "toString", "protected", "double", "float", "volatile", "native", "\\bvar\\b", "Integer\\.[A-Z]", "Long\\.[A-Z]"};
 
     private static int wrong = 0;
 
