@@ -1,4 +1,12 @@
+import java.lang.reflect.Method;
+import java.lang.reflect.Modifier;
+import java.util.ArrayList;
+import java.util.Arrays;
+import java.util.Comparator;
+import java.util.List;
 import java.util.Random;
+import java.util.Set;
+import java.util.stream.Collectors;
 
 /** Random runs of calls, the same ones each time, on WreckField and on SlowField: every answer must be the same. */
 public final class ModelTest {
@@ -7,6 +15,11 @@ public final class ModelTest {
         "(", ")", ";", "+", "-", "*", "<", "=", " ", "\n", "7", "0", "9999", "12345", "bars", "A", "\u00e9"};
 
     private static final int[] BETWEEN = {7, 8, 13, 14, 15, 16, 17};
+    private static final int[] EDGES = {Integer.MIN_VALUE, Integer.MIN_VALUE + 1, -40001, -40000, -5001, -5000, -32, -11, -10, -9, -3, -2,
+        -1, 0, 1, 2, 3, 4, 5, 6, 7, 8, 9, 10, 19, 20, 23, 24, 30, 31, 32, 39, 40, 41, 89, 90, 91, 99, 100, 120, 121, 200, 201, 400, 401,
+        998, 999, 1000, 1439, 1440, 1441, 5000, 5001, 15000, 15001, 40000, 40001, 1438560, 1439999, 1440000, Integer.MAX_VALUE - 2,
+        Integer.MAX_VALUE - 1, Integer.MAX_VALUE};
+    private static final Set<String> SLOW = Set.of("fit", "tapeTold", "sum", "count", "plan", "planned", "soonest");
 
     private final Random random;
     private final int flavour;
@@ -332,6 +345,36 @@ public final class ModelTest {
         }
     }
 
+    /** Every method with numbers at and beyond the edges of all ranges, in any state; no call may throw. */
+    private boolean runExtremes() throws ReflectiveOperationException {
+        List<Method> methods = new ArrayList<>();
+        for (Method method : WreckField.class.getDeclaredMethods()) {
+            if (Modifier.isPublic(method.getModifiers())) methods.add(method);
+        }
+        methods.sort(Comparator.comparing(Method::getName));
+        for (int i = random.nextInt(200); i > 0; i--) call(random.nextInt(8));
+        int slowCalls = 0;
+        for (int i = 0; i < 300; i++) {
+            Method method = methods.get(random.nextInt(methods.size()));
+            if (SLOW.contains(method.getName()) && ++slowCalls > 20) continue;
+            callExtreme(method);
+        }
+        return wrong == 0;
+    }
+
+    private void callExtreme(Method method) throws ReflectiveOperationException {
+        Object[] numbers = new Object[method.getParameterCount()];
+        for (int i = 0; i < numbers.length; i++) {
+            Class<?> type = method.getParameterTypes()[i];
+            if (type == boolean.class) numbers[i] = random.nextBoolean();
+            else if (type == long.class) numbers[i] = random.nextLong();
+            else numbers[i] = random.nextInt(3) == 0 ? random.nextInt(5) : EDGES[random.nextInt(EDGES.length)];
+        }
+        String call = Arrays.stream(numbers).map(String::valueOf).collect(Collectors.joining(", ", method.getName() + "(", ")"));
+        Method twin = SlowField.class.getDeclaredMethod(method.getName(), method.getParameterTypes());
+        due(call, ((Number) method.invoke(quick, numbers)).longValue(), ((Number) twin.invoke(slow, numbers)).longValue());
+    }
+
     /** A field of many MARKS and TAPES that nearly fit, all of it asked for, under several BARS. */
     private boolean runFits() {
         int marks = 3 + random.nextInt(6), spread = 1 + random.nextInt(5000), amiss = 1 + random.nextInt(300);
@@ -392,14 +435,15 @@ public final class ModelTest {
         for (int t = 0; t < slow.tasks.size(); t++) due("planned(" + t + ")", quick.planned(t), slow.planGangs[t]);
     }
 
-    public static void main(String[] args) {
+    public static void main(String[] args) throws ReflectiveOperationException {
         int wrongRuns = 0;
         for (int seed = 0; seed < RUNS; seed++) {
             if (!new ModelTest(seed).run()) wrongRuns++;
             if (!new ModelTest(seed).runFits()) wrongRuns++;
             if (!new ModelTest(seed).runPlans()) wrongRuns++;
+            if (!new ModelTest(seed).runExtremes()) wrongRuns++;
         }
-        System.out.println(wrongRuns == 0 ? 3 * RUNS + " runs are as the slow model has them" : wrongRuns + " runs are not");
+        System.out.println(wrongRuns == 0 ? 4 * RUNS + " runs are as the slow model has them" : wrongRuns + " runs are not");
         if (wrongRuns != 0) System.exit(1);
     }
 }

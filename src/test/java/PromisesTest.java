@@ -34,8 +34,14 @@ public final class PromisesTest {
         for (long answer : answers) due(answer, NO);
     }
 
+    /** By eights: what an object answers behind its 512th call is free. */
     private void feed(String text) {
-        for (int at = 0; at < text.length(); at++) x.feed(1, text.charAt(at));
+        for (int at = 0; at < text.length(); at += 8) {
+            int n = Math.min(8, text.length() - at);
+            long bytes = 0;
+            for (int i = n - 1; i >= 0; i--) bytes = bytes << 8 | text.charAt(at + i) & 255;
+            x.feed(n, bytes);
+        }
     }
 
     private int rule(String text) {
