@@ -27,6 +27,7 @@ public final class ModelTest {
     private final SlowField slow = new SlowField();
     private final StringBuilder calls = new StringBuilder();
     private int wrong = 0;
+    private int made = 0;
     private int fitCalls = 0;
     private int soonestCalls = 0;
     private int planCalls = 0;
@@ -38,7 +39,8 @@ public final class ModelTest {
 
     private void due(String call, long got, long want) {
         calls.append(call).append(" = ").append(want).append('\n');
-        if (got != want) {
+        // Behind the 512th call of an object every answer is free.
+        if (++made <= CALLS && got != want) {
             wrong++;
             if (wrong == 1) System.out.println(calls + "  but it answered " + got);
         }
@@ -73,7 +75,7 @@ public final class ModelTest {
     }
 
     private boolean run() {
-        for (int i = 0; i < CALLS; i++) {
+        for (int i = 0; i < CALLS && made < CALLS; i++) {
             // Most runs keep to one part of the face, so that its limits are reached.
             int part = flavour < 8 && random.nextInt(8) > 0 ? flavour : random.nextInt(8);
             call(part);

@@ -97,6 +97,15 @@ final class RulesBoundaries extends Checks {
             boolean passes = sign == 32 || sign == 10 || sign == ';' || sign >= '0' && sign <= '9';
             due(rule("bar 1" + (char) sign + " 2;"), joins ? 1 : passes ? -107 : -105);
         }
+        // Each byte behind a WORD, and each ahead of one: only a letter makes one WORD of both.
+        for (int sign = 0; sign < 256; sign++) {
+            boolean joins = "+-*<=".indexOf(sign) >= 0, isLetter = sign >= 'a' && sign <= 'z';
+            boolean passes = sign == 32 || sign == 10, isDigit = sign >= '0' && sign <= '9';
+            anew();
+            due(rule("bar x" + (char) sign + " 2;"), joins ? 1 : passes || sign == ';' ? -107 : isLetter ? -104 : -105);
+            anew();
+            due(rule("bar " + (char) sign + "x;"), passes || sign == '-' ? 1 : isDigit ? -105 : sign == '(' ? -106 : -104);
+        }
         // Each byte alone: only blanks make an empty RULE.
         for (int sign = 0; sign < 256; sign++) {
             anew();
