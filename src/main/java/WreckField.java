@@ -512,8 +512,10 @@ public final class WreckField {
             int leastX = ownX;
             int leastY = ownY;
             long least = nearSquares(ownX, ownY, NO_LIMIT);
-            for (int x = ownX - step; x <= ownX + step; x += step) {
-                for (int y = ownY - step; y <= ownY + step; y += step) {
+            for (int right = -1; right <= 1; right++) {
+                for (int up = -1; up <= 1; up++) {
+                    int x = ownX + right * step;
+                    int y = ownY + up * step;
                     long squares = nearSquares(x, y, least);
                     if (squares < least) {
                         least = squares;

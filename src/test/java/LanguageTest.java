@@ -109,6 +109,20 @@ public final class LanguageTest {
         }
     }
 
+    /** Rule 9: the counter, its bound and its step stand in the loop's own lines. */
+    private static void checkLoops(String text) {
+        String up = "<=? [^;]+; \\1\\+\\+", down = ">=? [^;]+; \\1(--| /= 2| = \\(\\1 - 1\\) & \\w+)";
+        String counted = "for \\(int (\\w+) = [^;]+; \\1 (" + up + "|" + down + ")\\) \\{";
+        String awaited = "(?s)while \\((\\w+) < [^\n]*\\) \\{[^}]*?\\b\\1\\+\\+;.*";
+        Matcher loop = Pattern.compile("(?m)^ *(for|while|do)\\b.*$").matcher(text);
+        while (loop.find()) {
+            String head = loop.group().trim();
+            boolean isBound = loop.group(1).equals("for") ? head.matches(counted)
+                : text.substring(loop.start()).trim().matches(awaited);
+            want(isBound, "the end of a loop can be seen: " + head);
+        }
+    }
+
     public static void main(String[] args) throws IOException {
         checkFace();
         checkClass(WreckField.class);
@@ -118,7 +132,9 @@ public final class LanguageTest {
             checkClass(kind);
             want(kind.getDeclaredClasses().length == 0, kind + " has no class inside");
         }
-        checkText(Files.readString(Path.of("src/main/java/WreckField.java")));
+        String text = Files.readString(Path.of("src/main/java/WreckField.java"));
+        checkText(text);
+        checkLoops(text);
         System.out.println(wrong == 0 ? "the face and the language are as told" : wrong + " things are not as told");
         if (wrong != 0) System.exit(1);
     }
